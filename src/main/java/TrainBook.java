@@ -26,7 +26,7 @@ public final class TrainBook {
     private final Train[] trains = new Train[MAX_TRAINS];
     private final SignBook signBook = new SignBook();
     private final Table sheet = new Table();
-    private final WayFinder finder = new WayFinder(trains);
+    private final WayFinder finder = new WayFinder();
     private int trainCount;
     private int changeMinutes = FIRST_CHANGE;
 
@@ -163,7 +163,7 @@ public final class TrainBook {
         if (!canTravel(from, to, day) || minute < 0 || minute >= MINUTES) {
             return NONE;
         }
-        finder.setOut(trainCount, day, changeMinutes);
+        finder.setOut(trains, trainCount, day, changeMinutes);
         return finder.findBest(from, to, minute) ? finder.read(what) : NONE;
     }
 
@@ -171,7 +171,7 @@ public final class TrainBook {
         if (!canTravel(from, to, day)) {
             return NONE;
         }
-        finder.setOut(trainCount, day, changeMinutes);
+        finder.setOut(trains, trainCount, day, changeMinutes);
         return finder.findDepartures(from, to);
     }
 
@@ -179,7 +179,7 @@ public final class TrainBook {
         if (!canTravel(from, to, day)) {
             return NONE;
         }
-        finder.setOut(trainCount, day, changeMinutes);
+        finder.setOut(trains, trainCount, day, changeMinutes);
         int count = finder.findDepartures(from, to);
         return k >= 0 && k < count ? finder.departureAt(k) : NONE;
     }
@@ -795,7 +795,7 @@ public final class TrainBook {
         /** Later than any train, and far from where sums wrap around. */
         private static final int NEVER = 1000000;
 
-        private final Train[] trains;
+        private Train[] trains = new Train[0];
         private int count;
         private int weekday;
         private int wait;
@@ -816,11 +816,8 @@ public final class TrainBook {
         private final int[] found = new int[MAX_TRAINS];
         private int foundCount;
 
-        WayFinder(Train[] trains) {
-            this.trains = trains;
-        }
-
-        void setOut(int trainCount, int day, int changeMinutes) {
+        void setOut(Train[] book, int trainCount, int day, int changeMinutes) {
+            trains = book;
             count = trainCount;
             weekday = day;
             wait = changeMinutes;
@@ -1002,7 +999,7 @@ public final class TrainBook {
             int last = legs - 1;
             leaves[last] = trains[leg[last]].stopAt[to];
             legLimit[last] = leaves[last] - 1;
-            for (int i = last - 1; i >= 0; i--) {
+            for (int i = last - 1; i > 0; i--) {
                 legLimit[i] = limitBefore(trains[leg[i]], trains[leg[i + 1]], legLimit[i + 1]);
             }
             boards[0] = trains[leg[0]].stopAt[from];

@@ -28,6 +28,9 @@ public final class PlainBookTest {
         for (int seed = 0; seed < 300; seed++) {
             wayRun(seed);
         }
+        for (int seed = 0; seed < 400; seed++) {
+            tieRun(seed);
+        }
         for (int legs = 1; legs <= 10; legs++) {
             longWayRun(legs);
         }
@@ -153,6 +156,41 @@ public final class PlainBookTest {
         compareWays(seed, x, y, random);
     }
 
+    /** Long stays at few stations and many trains that come at once, so that many ways are alike. */
+    private static void tieRun(int seed) {
+        Random random = new Random(seed);
+        TrainBook x = new TrainBook();
+        Plain y = new Plain();
+        int trains = 4 + random.nextInt(5);
+        for (int t = 0; t < trains; t++) {
+            y.train(1);
+            x.train(1);
+            int minute = 10 * random.nextInt(20);
+            int count = 2 + random.nextInt(3);
+            for (int i = 0; i < count; i++) {
+                int s = random.nextInt(5);
+                int goes = minute + 10 * random.nextInt(6);
+                x.stop(t, s, minute, goes);
+                y.stop(t, s, minute, goes);
+                minute = goes + 10;
+            }
+            if (random.nextBoolean()) {
+                x.stop(t, 5, 800, 800);
+                y.stop(t, 5, 800, 800);
+            }
+        }
+        int change = 10 * random.nextInt(4);
+        due(seed, "change", bit(x.change(change)), bit(y.change(change)));
+        for (int from = 0; from < 5; from++) {
+            for (int to = 0; to < 6; to++) {
+                List<Way> ways = y.allWays(from, to, 0);
+                for (int minute = 0; minute < 300; minute += 10) {
+                    compareWay(seed, x, y, ways, new int[] {from, to, 0, minute});
+                }
+            }
+        }
+    }
+
     /** A chain of trains, the last one first, so that a way of so many trains is the only one. */
     private static void longWayRun(int legs) {
         TrainBook x = new TrainBook();
@@ -239,14 +277,21 @@ public final class PlainBookTest {
                         due(seed, "departure" + name + ", " + k + ")", x.departure(from, to, day, k), want);
                     }
                     for (int minute : minutes) {
-                        Way best = minute < 0 || minute > 1439 ? null : y.best(ways, minute);
-                        int legs = best == null ? 0 : best.legs();
-                        for (int what = -1; what < 10 * legs + 22; what++) {
-                            due(seed, "way" + name + ", " + minute + ", " + what + ")",
-                                    x.way(from, to, day, minute, what), y.read(best, what));
-                        }
+                        compareWay(seed, x, y, ways, new int[] {from, to, day, minute});
                     }
                 }
+            }
+        }
+    }
+
+    private static void compareWay(int seed, TrainBook x, Plain y, List<Way> ways, int[] a) {
+        Way best = a[3] < 0 || a[3] > 1439 ? null : y.best(ways, a[3]);
+        int legs = best == null ? 0 : best.legs();
+        for (int what = -1; what < 10 * legs + 22; what++) {
+            int got = x.way(a[0], a[1], a[2], a[3], what);
+            int want = y.read(best, what);
+            if (got != want) {
+                due(seed, "way(" + a[0] + ", " + a[1] + ", " + a[2] + ", " + a[3] + ", " + what + ")", got, want);
             }
         }
     }

@@ -687,6 +687,23 @@ public final class PromiseTest {
         add(x, 1, 2, 30, 30, 4, 90, 90);
         dueWay(x, 0, 4, 0, 1, 0, 1, 10, 30, 3, 1, 4, 50, 90);
 
+        TrainBook open = new TrainBook();
+        add(open, 1, 0, 0, 0, 5, 10, 10, 6, 20, 20);
+        add(open, 1, 5, 30, 30, 7, 40, 40, 6, 50, 50, 8, 60, 60);
+        add(open, 1, 7, 70, 70, 9, 99, 99);
+        add(open, 1, 8, 70, 70, 9, 99, 99);
+        dueWay(open, 0, 9, 0, 0, 0, 5, 0, 10, 1, 5, 7, 30, 40, 2, 7, 9, 70, 99);
+        open.cut(2);
+        dueWay(open, 0, 9, 0, 0, 0, 5, 0, 10, 1, 5, 8, 30, 60, 3, 8, 9, 70, 99);
+
+        TrainBook stays = new TrainBook();
+        add(stays, 1, 1, 20, 20, 9, 90, 90);
+        add(stays, 1, 0, 0, 30, 2, 40, 40);
+        add(stays, 1, 0, 0, 8, 1, 10, 10, 2, 50, 50, 3, 60, 60);
+        add(stays, 1, 3, 70, 70, 9, 90, 90);
+        due("no train is left where it is boarded", stays.way(0, 9, 0, 9, 1), 3);
+        dueWay(stays, 0, 9, 9, 1, 0, 2, 30, 40, 2, 2, 3, 50, 60, 3, 3, 9, 70, 90);
+
         TrainBook before = new TrainBook();
         add(before, 1, 5, 40, 40, 6, 60, 60);
         add(before, 1, 0, 10, 10, 3, 20, 20, 5, 30, 30);
