@@ -830,7 +830,7 @@ public final class TrainBook {
             }
             countLegs(from, to, minute);
             chooseTrains(from, minute);
-            chooseStations(from, to);
+            chooseStations(to);
             return true;
         }
 
@@ -995,14 +995,13 @@ public final class TrainBook {
             return first;
         }
 
-        private void chooseStations(int from, int to) {
+        private void chooseStations(int to) {
             int last = legs - 1;
             leaves[last] = trains[leg[last]].stopAt[to];
             legLimit[last] = leaves[last] - 1;
             for (int i = last - 1; i > 0; i--) {
                 legLimit[i] = limitBefore(trains[leg[i]], trains[leg[i + 1]], legLimit[i + 1]);
             }
-            boards[0] = trains[leg[0]].stopAt[from];
             for (int i = 0; i < last; i++) {
                 leaves[i] = leastChange(i);
                 boards[i + 1] = trains[leg[i + 1]].stopAt[trains[leg[i]].station[leaves[i]]];

@@ -17,6 +17,7 @@ public final class RoomTest {
     public static void main(String[] args) {
         oddCalls();
         dearestCalls();
+        allCallsOfAnObject();
         System.out.println(wrong == 0 ? "the room is enough" : wrong + " faults");
         if (wrong != 0) {
             System.exit(1);
@@ -83,6 +84,21 @@ public final class RoomTest {
             }
         }
         return x;
+    }
+
+    /** An object is used for 512 calls: the last one is answered as the first one was. */
+    private static void allCallsOfAnObject() {
+        TrainBook x = Check.fullBook();
+        int madeWith = 87;
+        int rows = x.table(63);
+        int comes = x.way(0, 5, 6, 0, 0);
+        for (int call = madeWith + 3; call <= 512; call++) {
+            boolean same = call % 2 == 0 ? x.table(63) == rows : x.way(0, 5, 6, 0, 0) == comes;
+            if (!same) {
+                wrong++;
+                System.out.println("call " + call + " is not answered as before");
+            }
+        }
     }
 
     private static void dearestCalls() {

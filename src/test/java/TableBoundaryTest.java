@@ -357,6 +357,17 @@ public final class TableBoundaryTest {
         Check.due("BLANK ahead of its first", behind.cell(0, 1, 0), -1);
     }
 
+    static void promise14NothingOfAnEarlierTable() {
+        TrainBook x = trainsOf("abc", "ad", "abcd");
+        x.table(0b001);
+        x.table(0b110);
+        Check.dueColumns(x, 1, 2);
+        Check.due("its first", x.cell(0, 0, 0), 20);
+        Check.due("PAST", x.cell(1, 0, 0), -2);
+        Check.due("PAST", x.cell(2, 0, 0), -2);
+        Check.due("its last", x.cell(3, 0, 0), 21);
+    }
+
     // "NONE - 2 if there is none such, or another what."
 
     static void promise14NoneLessTwoForNoSuchRow() {
@@ -429,12 +440,29 @@ public final class TableBoundaryTest {
         dueBreaches("one of seven stops", tableOf("abcdefg"), 0, 0);
     }
 
-    static void promise15AllOfSixTrains() {
+    /** Six trains of which each overtakes all that begin ahead of it. */
+    private static TrainBook sixKnotted() {
         TrainBook x = new TrainBook();
         for (int t = 0; t < 6; t++) {
             Check.line(x, 0, 10 + t, 1, 100 - t);
         }
         x.table(63);
+        return x;
+    }
+
+    static void promise15ATableMadeAnewIsCountedAnew() {
+        TrainBook x = sixKnotted();
+        x.table(1);
+        dueBreaches("one", x, 0, 0);
+        x.table(63);
+        x.table(3);
+        dueBreaches("two", x, 1, 1);
+        x.table(0);
+        dueBreaches("it stays", x, 1, 1);
+    }
+
+    static void promise15AllOfSixTrains() {
+        TrainBook x = sixKnotted();
         dueBreaches("six that overtake one another", x, 15, 15);
         Check.dueColumns(x, 0, 1, 2, 3, 4, 5);
         for (int i = 0; i < 6; i++) {
@@ -621,6 +649,16 @@ public final class TableBoundaryTest {
         for (int j = 0; j < 6; j++) {
             Check.due("lane(" + j + ")", x.lane(j), j % 2);
         }
+    }
+
+    static void promise17ATableMadeAnewNeedsItsOwn() {
+        TrainBook x = tableOf("ab", "ab", "ab", "ab", "ab", "cd");
+        Check.due("six trains", x.lanes(), 5);
+        x.table(0b100001);
+        Check.due("two that never meet", x.lanes(), 1);
+        Check.due("lane(1)", x.lane(1), 0);
+        x.table(0b000011);
+        Check.due("two that meet", x.lanes(), 2);
     }
 
     static void promise17NoneWithoutATable() {

@@ -123,6 +123,78 @@ public final class WayBoundaryTest {
         dueWay(both, 3, 4, 0, 0, 3, 4, 10, 20);
     }
 
+    /** Each of these trains stays long, so that who comes late could still board and leave it there. */
+    static void promise19NoTrainIsLeftWhereItIsBoarded() {
+        TrainBook atTheEnd = new TrainBook();
+        Check.line(atTheEnd, 0, 10, 9, 80);
+        Check.line(atTheEnd, 0, 10, 1, 20);
+        Check.add(atTheEnd, 1, 1, 30, 30, 9, 50, 100, 8, 110, 110);
+        dueWay(atTheEnd, 0, 9, 0, 1, 0, 1, 10, 20, 2, 1, 9, 30, 50);
+
+        TrainBook between = new TrainBook();
+        Check.line(between, 0, 10, 1, 40);
+        Check.add(between, 1, 8, 5, 5, 1, 10, 60, 7, 70, 70);
+        Check.line(between, 1, 30, 9, 100);
+        Check.line(between, 0, 10, 2, 20);
+        Check.line(between, 2, 30, 3, 40);
+        Check.line(between, 3, 50, 9, 100);
+        dueWay(between, 0, 9, 0, 3, 0, 2, 10, 20, 4, 2, 3, 30, 40, 5, 3, 9, 50, 100);
+
+        TrainBook atTheBeginning = new TrainBook();
+        Check.add(atTheBeginning, 1, 0, 5, 30, 1, 40, 40);
+        Check.line(atTheBeginning, 0, 20, 9, 100);
+        Check.line(atTheBeginning, 1, 50, 9, 100);
+        dueWay(atTheBeginning, 0, 9, 25, 0, 0, 1, 30, 40, 2, 1, 9, 50, 100);
+        dueNoWay("a minute too late", atTheBeginning, 0, 9, 31);
+    }
+
+    static void promise19NoStationIsBothBoardedAndLeft() {
+        TrainBook atTheEnd = new TrainBook();
+        Check.line(atTheEnd, 0, 10, 5, 20, 1, 80);
+        Check.add(atTheEnd, 1, 5, 30, 30, 1, 50, 100);
+        dueWay(atTheEnd, 0, 1, 0, 0, 0, 5, 10, 20, 1, 5, 1, 30, 50);
+
+        TrainBook between = new TrainBook();
+        Check.line(between, 0, 10, 5, 20, 1, 80);
+        Check.add(between, 1, 5, 30, 30, 1, 50, 100);
+        Check.line(between, 1, 60, 9, 120);
+        dueWay(between, 0, 9, 0, 0, 0, 5, 10, 20, 1, 5, 1, 30, 50, 2, 1, 9, 60, 120);
+
+        TrainBook atTheBeginning = new TrainBook();
+        Check.add(atTheBeginning, 1, 0, 5, 30, 1, 40, 40);
+        Check.line(atTheBeginning, 0, 20, 1, 50, 9, 100);
+        dueWay(atTheBeginning, 0, 9, 25, 0, 0, 1, 30, 40, 1, 1, 9, 50, 100);
+    }
+
+    static void promise19NotLeftAtAnEarlierStop() {
+        TrainBook x = new TrainBook();
+        Check.line(x, 0, 10, 1, 20);
+        Check.line(x, 6, 5, 5, 10, 1, 40, 3, 50);
+        Check.line(x, 5, 60, 9, 100);
+        Check.line(x, 3, 60, 9, 100);
+        dueWay(x, 0, 9, 0, 0, 0, 1, 10, 20, 1, 1, 3, 40, 50, 3, 3, 9, 60, 100);
+    }
+
+    static void promise19NoChangeAtAStopThatWasCut() {
+        TrainBook x = new TrainBook();
+        Check.line(x, 0, 10, 1, 20, 2, 30);
+        Check.line(x, 0, 10, 2, 30);
+        Check.line(x, 2, 40, 3, 50);
+        dueWay(x, 0, 3, 0, 0, 0, 2, 10, 30, 2, 2, 3, 40, 50);
+        x.cut(0);
+        dueWay(x, 0, 3, 0, 1, 0, 2, 10, 30, 2, 2, 3, 40, 50);
+        x.cut(1);
+        dueNoWay("both are cut", x, 0, 3, 0);
+
+        TrainBook three = new TrainBook();
+        Check.line(three, 0, 10, 5, 20, 1, 50);
+        Check.line(three, 5, 30, 3, 40, 1, 60, 4, 70);
+        Check.line(three, 3, 50, 4, 80, 9, 100);
+        dueWay(three, 0, 9, 0, 0, 0, 1, 10, 50, 1, 1, 4, 60, 70, 2, 4, 9, 80, 100);
+        three.cut(1);
+        dueWay(three, 0, 9, 0, 0, 0, 5, 10, 20, 1, 5, 3, 30, 40, 2, 3, 9, 50, 100);
+    }
+
     static void promise19OneStopIsNoWay() {
         TrainBook x = new TrainBook();
         Check.line(x, 0, 10);
@@ -150,6 +222,16 @@ public final class WayBoundaryTest {
             dueWay(changing(change, change + 1), 0, 2, 0, 0, 0, 1, 10, 100, 1, 1, 2, 101 + change, 400);
             dueNoWay("a minute short of " + change, changing(change, change - 1), 0, 2, 0);
         }
+    }
+
+    static void promise19ALesserTrainThatComesAMinuteTooLate() {
+        TrainBook x = new TrainBook();
+        Check.line(x, 0, 10, 1, 36);
+        Check.line(x, 0, 10, 1, 30);
+        Check.line(x, 1, 40, 2, 50);
+        dueWay(x, 0, 2, 0, 1, 0, 1, 10, 30, 2, 1, 2, 40, 50);
+        x.change(4);
+        dueWay(x, 0, 2, 0, 0, 0, 1, 10, 36, 2, 1, 2, 40, 50);
     }
 
     static void promise19TheFirstTrainNeedsNoChange() {
@@ -301,6 +383,25 @@ public final class WayBoundaryTest {
         Check.line(x, 5, 40, 2, 50);
         Check.line(x, 1, 40, 2, 50);
         dueWay(x, 0, 2, 0, 0, 0, 5, 10, 30, 1, 5, 2, 40, 50);
+    }
+
+    static void promise19BoardedEarlierForALesserTrainBehind() {
+        TrainBook x = new TrainBook();
+        Check.line(x, 0, 10, 1, 20, 2, 30);
+        Check.line(x, 1, 40, 3, 50, 2, 60, 4, 70);
+        Check.line(x, 3, 65, 9, 100);
+        Check.line(x, 4, 80, 9, 100);
+        dueWay(x, 0, 9, 0, 0, 0, 1, 10, 20, 1, 1, 3, 40, 50, 2, 3, 9, 65, 100);
+    }
+
+    static void promise19ALongerWayAskedAheadDoesNotStay() {
+        TrainBook x = chain();
+        Check.due("ten trains", x.way(0, 10, 0, 0, 1), 10);
+        dueWay(x, 8, 10, 0, 1, 8, 9, 163, 178, 0, 9, 10, 183, 198);
+        dueWay(x, 0, 1, 0, 9, 0, 1, 3, 18);
+        dueNoWay("none", x, 10, 0, 0);
+        dueWay(x, 7, 9, 0, 2, 7, 8, 143, 158, 1, 8, 9, 163, 178);
+        dueWay(x, 8, 10, 0, 1, 8, 9, 163, 178, 0, 9, 10, 183, 198);
     }
 
     static void promise19TheLeastStationOfAllAtWhichItCanChange() {
