@@ -9,7 +9,7 @@ import java.util.regex.Matcher;
 import java.util.regex.Pattern;
 
 /**
- * What the boundary tests share: they run each method of theirs whose name tells a promise, and look
+ * What tests of the promises share: they run each method of theirs whose name tells a promise, and look
  * at all that a book answers, so that a call that must do nothing is seen to do nothing. No object is
  * used for more than 512 calls, because what later calls answer is free.
  */
