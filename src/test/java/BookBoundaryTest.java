@@ -12,7 +12,7 @@ public final class BookBoundaryTest {
     };
 
     public static void main(String[] args) {
-        Check.runAll(BookBoundaryTest.class, 1, 10);
+        Check.runAll(BookBoundaryTest.class, "promise", 1, 10);
     }
 
     private static Supplier<TrainBook> bookOf(int... stops) {

@@ -51,11 +51,7 @@ public final class FaceTest {
         for (String missing : want) {
             fault("missing: " + missing);
         }
-        for (Field f : TrainBook.class.getDeclaredFields()) {
-            if (!Modifier.isPrivate(f.getModifiers()) && !f.getName().equals("NONE")) {
-                fault("not of the face: " + f);
-            }
-        }
+        checkConstants();
         Constructor<?>[] constructors = TrainBook.class.getDeclaredConstructors();
         if (constructors.length != 1 || !Modifier.isPublic(constructors[0].getModifiers())
                 || constructors[0].getParameterCount() != 0) {
@@ -63,6 +59,20 @@ public final class FaceTest {
         }
         if (!Modifier.isFinal(TrainBook.class.getModifiers())) {
             fault("the class is not final");
+        }
+    }
+
+    private static void checkConstants() {
+        int constants = 0;
+        for (Field f : TrainBook.class.getDeclaredFields()) {
+            if (f.toString().equals("public static final int TrainBook.NONE")) {
+                constants++;
+            } else if (!Modifier.isPrivate(f.getModifiers())) {
+                fault("not of the face: " + f);
+            }
+        }
+        if (constants != 1 || TrainBook.NONE != -1) {
+            fault("NONE is not the constant of the face");
         }
     }
 

@@ -4,7 +4,7 @@ public final class PromiseTest {
     private static final int MOST = Check.MOST;
 
     public static void main(String[] args) {
-        Check.runAll(PromiseTest.class, 1, 21);
+        Check.runAll(PromiseTest.class, "promise", 1, 21);
     }
 
     static void promise1ANewObject() {
@@ -530,18 +530,11 @@ public final class PromiseTest {
     }
 
     private static void dueWay(TrainBook x, int from, int to, int minute, int... parts) {
-        String name = "way(" + from + ", " + to + ", 0, " + minute + ", ";
-        int legs = parts.length / 5;
-        Check.due(name + "0)", x.way(from, to, 0, minute, 0), parts[parts.length - 1]);
-        Check.due(name + "1)", x.way(from, to, 0, minute, 1), legs);
-        Check.due(name + "2)", x.way(from, to, 0, minute, 2), parts[3]);
-        for (int i = 0; i < parts.length; i++) {
-            int what = i / 5 * 10 + 10 + i % 5;
-            Check.due(name + what + ")", x.way(from, to, 0, minute, what), parts[i]);
-        }
-        int[] others = {-1, -10, 3, 9, 15, 19, 10 * legs + 10, 10 * legs + 14, 120, 1000, LEAST, MOST};
+        Check.dueWay(x, from, to, minute, parts);
+        int behind = 10 * (parts.length / 5) + 10;
+        int[] others = {-1, -10, 3, 9, 15, 19, behind, behind + 4, 120, 1000, LEAST, MOST};
         for (int what : others) {
-            Check.due(name + what + ")", x.way(from, to, 0, minute, what), -1);
+            Check.due("way(.., " + what + ")", x.way(from, to, 0, minute, what), -1);
         }
     }
 
@@ -676,14 +669,6 @@ public final class PromiseTest {
         Check.due("day 6", x.way(0, 2, 6, 0, 0), -1);
     }
 
-    private static void dueDepartures(TrainBook x, int from, int to, int... minutes) {
-        Check.due("departures(" + from + ", " + to + ", 0)", x.departures(from, to, 0), minutes.length);
-        for (int k = 0; k < minutes.length; k++) {
-            Check.due("departure(" + from + ", " + to + ", 0, " + k + ")", x.departure(from, to, 0, k), minutes[k]);
-        }
-        Check.due("departure behind the last", x.departure(from, to, 0, minutes.length), -1);
-    }
-
     static void promise20Departures() {
         TrainBook x = new TrainBook();
         Check.due("no train", x.departures(0, 1, 0), 0);
@@ -692,14 +677,14 @@ public final class PromiseTest {
         Check.add(x, 1, 0, 25, 28, 1, 45, 45);
         Check.add(x, 1, 0, 29, 29, 1, 40, 40);
         Check.add(x, 2, 0, 50, 50, 1, 60, 60);
-        dueDepartures(x, 0, 1, 10, 30);
+        Check.dueDepartures(x, 0, 1, 10, 30);
         Check.add(x, 1, 0, 50, 50, 5, 51, 51);
         Check.add(x, 1, 5, 56, 56, 1, 57, 57);
         Check.add(x, 1, 0, 0, 0, 1, 1, 1);
-        dueDepartures(x, 0, 1, 0, 10, 30, 50);
+        Check.dueDepartures(x, 0, 1, 0, 10, 30, 50);
         x.change(6);
-        dueDepartures(x, 0, 1, 0, 10, 30);
-        dueDepartures(x, 1, 0);
+        Check.dueDepartures(x, 0, 1, 0, 10, 30);
+        Check.dueDepartures(x, 1, 0);
         Check.due("day 1", x.departures(0, 1, 1), 1);
         int[][] cannot = {
             {0, 0, 0}, {-1, 1, 0}, {12, 1, 0}, {0, -1, 0}, {0, 12, 0}, {0, 1, -1}, {0, 1, 7}, {LEAST, 1, 0},
@@ -716,12 +701,12 @@ public final class PromiseTest {
         for (int t = 9; t >= 0; t--) {
             Check.add(x, 1, 3, 10 * t, 10 * t + 1, 4, 100 + t, 100 + t);
         }
-        dueDepartures(x, 3, 4, 1, 11, 21, 31, 41, 51, 61, 71, 81, 91);
+        Check.dueDepartures(x, 3, 4, 1, 11, 21, 31, 41, 51, 61, 71, 81, 91);
         Check.due("departure(3, 4, 0, -1)", x.departure(3, 4, 0, -1), -1);
         Check.due("departure(3, 4, 0, LEAST)", x.departure(3, 4, 0, LEAST), -1);
         Check.due("departure(3, 4, 0, MOST)", x.departure(3, 4, 0, MOST), -1);
         x.days(0, 2);
-        dueDepartures(x, 3, 4, 1, 11, 21, 31, 41, 51, 61, 71, 81);
+        Check.dueDepartures(x, 3, 4, 1, 11, 21, 31, 41, 51, 61, 71, 81);
         Check.due("departure(3, 4, 1, 0)", x.departure(3, 4, 1, 0), 91);
         Check.due("departure(3, 4, 1, 1)", x.departure(3, 4, 1, 1), -1);
         Check.due("departure(3, 4, 2, 0)", x.departure(3, 4, 2, 0), -1);

@@ -9,7 +9,7 @@ public final class TableBoundaryTest {
     private static final int MOST = Check.MOST;
 
     public static void main(String[] args) {
-        Check.runAll(TableBoundaryTest.class, 11, 18);
+        Check.runAll(TableBoundaryTest.class, "promise", 11, 18);
     }
 
     /** Trains with the stations told by letters, 'a' for 0, one minute apart, each train 20 later. */

@@ -10,34 +10,13 @@ public final class WayBoundaryTest {
     private static final int MOST = Check.MOST;
 
     public static void main(String[] args) {
-        Check.runAll(WayBoundaryTest.class, 19, 21);
-    }
-
-    /** That the best way on day 0 has these parts: train, boarded at, left at, goes, comes in turn. */
-    private static void dueWay(TrainBook x, int from, int to, int minute, int... parts) {
-        String name = "way(" + from + ", " + to + ", 0, " + minute + ", ";
-        Check.due(name + "0)", x.way(from, to, 0, minute, 0), parts[parts.length - 1]);
-        Check.due(name + "1)", x.way(from, to, 0, minute, 1), parts.length / 5);
-        Check.due(name + "2)", x.way(from, to, 0, minute, 2), parts[3]);
-        for (int i = 0; i < parts.length; i++) {
-            int what = i / 5 * 10 + 10 + i % 5;
-            Check.due(name + what + ")", x.way(from, to, 0, minute, what), parts[i]);
-        }
+        Check.runAll(WayBoundaryTest.class, "promise", 19, 21);
     }
 
     private static void dueNoWay(String name, TrainBook x, int from, int to, int minute) {
         for (int what = 0; what < 15; what++) {
             Check.due(name + ": what " + what, x.way(from, to, 0, minute, what), -1);
         }
-    }
-
-    private static void dueDepartures(TrainBook x, int from, int to, int... minutes) {
-        Check.due("departures(" + from + ", " + to + ", 0)", x.departures(from, to, 0), minutes.length);
-        for (int k = 0; k < minutes.length; k++) {
-            Check.due("departure(.., " + k + ")", x.departure(from, to, 0, k), minutes[k]);
-        }
-        Check.due("departure(.., " + minutes.length + ")", x.departure(from, to, 0, minutes.length), -1);
-        Check.due("departure(.., -1)", x.departure(from, to, 0, -1), -1);
     }
 
     /** One train on all days, from station 0 by 5 to station 11. */
@@ -61,9 +40,9 @@ public final class WayBoundaryTest {
 
     static void promise19FromTheFirstStationToTheLast() {
         TrainBook x = oneTrain();
-        dueWay(x, 0, 11, 0, 0, 0, 11, 20, 50);
-        dueWay(x, 0, 5, 0, 0, 0, 5, 20, 30);
-        dueWay(x, 5, 11, 0, 0, 5, 11, 40, 50);
+        Check.dueWay(x, 0, 11, 0, 0, 0, 11, 20, 50);
+        Check.dueWay(x, 0, 5, 0, 0, 0, 5, 20, 30);
+        Check.dueWay(x, 5, 11, 0, 0, 5, 11, 40, 50);
     }
 
     static void promise19TheFirstAndLastDay() {
@@ -91,18 +70,18 @@ public final class WayBoundaryTest {
         TrainBook x = new TrainBook();
         Check.line(x, 0, 0, 1, 1439);
         Check.line(x, 2, 1438, 3, 1439);
-        dueWay(x, 0, 1, 0, 0, 0, 1, 0, 1439);
+        Check.dueWay(x, 0, 1, 0, 0, 0, 1, 0, 1439);
         dueNoWay("a minute later", x, 0, 1, 1);
-        dueWay(x, 2, 3, 0, 1, 2, 3, 1438, 1439);
-        dueWay(x, 2, 3, 1438, 1, 2, 3, 1438, 1439);
+        Check.dueWay(x, 2, 3, 0, 1, 2, 3, 1438, 1439);
+        Check.dueWay(x, 2, 3, 1438, 1, 2, 3, 1438, 1439);
         dueNoWay("the last minute", x, 2, 3, 1439);
     }
 
     static void promise19ItGoesAtThatMinuteOrLater() {
         TrainBook x = oneTrain();
-        dueWay(x, 0, 11, 20, 0, 0, 11, 20, 50);
+        Check.dueWay(x, 0, 11, 20, 0, 0, 11, 20, 50);
         dueNoWay("a minute later", x, 0, 11, 21);
-        dueWay(x, 5, 11, 40, 0, 5, 11, 40, 50);
+        Check.dueWay(x, 5, 11, 40, 0, 5, 11, 40, 50);
         dueNoWay("a minute later", x, 5, 11, 41);
     }
 
@@ -119,8 +98,8 @@ public final class WayBoundaryTest {
         TrainBook both = new TrainBook();
         Check.line(both, 3, 10, 4, 20);
         Check.line(both, 4, 30, 3, 40);
-        dueWay(both, 4, 3, 0, 1, 4, 3, 30, 40);
-        dueWay(both, 3, 4, 0, 0, 3, 4, 10, 20);
+        Check.dueWay(both, 4, 3, 0, 1, 4, 3, 30, 40);
+        Check.dueWay(both, 3, 4, 0, 0, 3, 4, 10, 20);
     }
 
     /** Each of these trains stays long, so that who comes late could still board and leave it there. */
@@ -129,7 +108,7 @@ public final class WayBoundaryTest {
         Check.line(atTheEnd, 0, 10, 9, 80);
         Check.line(atTheEnd, 0, 10, 1, 20);
         Check.add(atTheEnd, 1, 1, 30, 30, 9, 50, 100, 8, 110, 110);
-        dueWay(atTheEnd, 0, 9, 0, 1, 0, 1, 10, 20, 2, 1, 9, 30, 50);
+        Check.dueWay(atTheEnd, 0, 9, 0, 1, 0, 1, 10, 20, 2, 1, 9, 30, 50);
 
         TrainBook between = new TrainBook();
         Check.line(between, 0, 10, 1, 40);
@@ -138,13 +117,13 @@ public final class WayBoundaryTest {
         Check.line(between, 0, 10, 2, 20);
         Check.line(between, 2, 30, 3, 40);
         Check.line(between, 3, 50, 9, 100);
-        dueWay(between, 0, 9, 0, 3, 0, 2, 10, 20, 4, 2, 3, 30, 40, 5, 3, 9, 50, 100);
+        Check.dueWay(between, 0, 9, 0, 3, 0, 2, 10, 20, 4, 2, 3, 30, 40, 5, 3, 9, 50, 100);
 
         TrainBook atTheBeginning = new TrainBook();
         Check.add(atTheBeginning, 1, 0, 5, 30, 1, 40, 40);
         Check.line(atTheBeginning, 0, 20, 9, 100);
         Check.line(atTheBeginning, 1, 50, 9, 100);
-        dueWay(atTheBeginning, 0, 9, 25, 0, 0, 1, 30, 40, 2, 1, 9, 50, 100);
+        Check.dueWay(atTheBeginning, 0, 9, 25, 0, 0, 1, 30, 40, 2, 1, 9, 50, 100);
         dueNoWay("a minute too late", atTheBeginning, 0, 9, 31);
     }
 
@@ -152,18 +131,18 @@ public final class WayBoundaryTest {
         TrainBook atTheEnd = new TrainBook();
         Check.line(atTheEnd, 0, 10, 5, 20, 1, 80);
         Check.add(atTheEnd, 1, 5, 30, 30, 1, 50, 100);
-        dueWay(atTheEnd, 0, 1, 0, 0, 0, 5, 10, 20, 1, 5, 1, 30, 50);
+        Check.dueWay(atTheEnd, 0, 1, 0, 0, 0, 5, 10, 20, 1, 5, 1, 30, 50);
 
         TrainBook between = new TrainBook();
         Check.line(between, 0, 10, 5, 20, 1, 80);
         Check.add(between, 1, 5, 30, 30, 1, 50, 100);
         Check.line(between, 1, 60, 9, 120);
-        dueWay(between, 0, 9, 0, 0, 0, 5, 10, 20, 1, 5, 1, 30, 50, 2, 1, 9, 60, 120);
+        Check.dueWay(between, 0, 9, 0, 0, 0, 5, 10, 20, 1, 5, 1, 30, 50, 2, 1, 9, 60, 120);
 
         TrainBook atTheBeginning = new TrainBook();
         Check.add(atTheBeginning, 1, 0, 5, 30, 1, 40, 40);
         Check.line(atTheBeginning, 0, 20, 1, 50, 9, 100);
-        dueWay(atTheBeginning, 0, 9, 25, 0, 0, 1, 30, 40, 1, 1, 9, 50, 100);
+        Check.dueWay(atTheBeginning, 0, 9, 25, 0, 0, 1, 30, 40, 1, 1, 9, 50, 100);
     }
 
     static void promise19NotLeftAtAnEarlierStop() {
@@ -172,7 +151,7 @@ public final class WayBoundaryTest {
         Check.line(x, 6, 5, 5, 10, 1, 40, 3, 50);
         Check.line(x, 5, 60, 9, 100);
         Check.line(x, 3, 60, 9, 100);
-        dueWay(x, 0, 9, 0, 0, 0, 1, 10, 20, 1, 1, 3, 40, 50, 3, 3, 9, 60, 100);
+        Check.dueWay(x, 0, 9, 0, 0, 0, 1, 10, 20, 1, 1, 3, 40, 50, 3, 3, 9, 60, 100);
     }
 
     static void promise19NoChangeAtAStopThatWasCut() {
@@ -180,9 +159,9 @@ public final class WayBoundaryTest {
         Check.line(x, 0, 10, 1, 20, 2, 30);
         Check.line(x, 0, 10, 2, 30);
         Check.line(x, 2, 40, 3, 50);
-        dueWay(x, 0, 3, 0, 0, 0, 2, 10, 30, 2, 2, 3, 40, 50);
+        Check.dueWay(x, 0, 3, 0, 0, 0, 2, 10, 30, 2, 2, 3, 40, 50);
         x.cut(0);
-        dueWay(x, 0, 3, 0, 1, 0, 2, 10, 30, 2, 2, 3, 40, 50);
+        Check.dueWay(x, 0, 3, 0, 1, 0, 2, 10, 30, 2, 2, 3, 40, 50);
         x.cut(1);
         dueNoWay("both are cut", x, 0, 3, 0);
 
@@ -190,9 +169,9 @@ public final class WayBoundaryTest {
         Check.line(three, 0, 10, 5, 20, 1, 50);
         Check.line(three, 5, 30, 3, 40, 1, 60, 4, 70);
         Check.line(three, 3, 50, 4, 80, 9, 100);
-        dueWay(three, 0, 9, 0, 0, 0, 1, 10, 50, 1, 1, 4, 60, 70, 2, 4, 9, 80, 100);
+        Check.dueWay(three, 0, 9, 0, 0, 0, 1, 10, 50, 1, 1, 4, 60, 70, 2, 4, 9, 80, 100);
         three.cut(1);
-        dueWay(three, 0, 9, 0, 0, 0, 5, 10, 20, 1, 5, 3, 30, 40, 2, 3, 9, 50, 100);
+        Check.dueWay(three, 0, 9, 0, 0, 0, 5, 10, 20, 1, 5, 3, 30, 40, 2, 3, 9, 50, 100);
     }
 
     static void promise19OneStopIsNoWay() {
@@ -218,8 +197,8 @@ public final class WayBoundaryTest {
 
     static void promise19ChangeMinutesAtLeast() {
         for (int change : new int[] {0, 1, 5, 59, 60}) {
-            dueWay(changing(change, change), 0, 2, 0, 0, 0, 1, 10, 100, 1, 1, 2, 100 + change, 400);
-            dueWay(changing(change, change + 1), 0, 2, 0, 0, 0, 1, 10, 100, 1, 1, 2, 101 + change, 400);
+            Check.dueWay(changing(change, change), 0, 2, 0, 0, 0, 1, 10, 100, 1, 1, 2, 100 + change, 400);
+            Check.dueWay(changing(change, change + 1), 0, 2, 0, 0, 0, 1, 10, 100, 1, 1, 2, 101 + change, 400);
             dueNoWay("a minute short of " + change, changing(change, change - 1), 0, 2, 0);
         }
     }
@@ -229,22 +208,22 @@ public final class WayBoundaryTest {
         Check.line(x, 0, 10, 1, 36);
         Check.line(x, 0, 10, 1, 30);
         Check.line(x, 1, 40, 2, 50);
-        dueWay(x, 0, 2, 0, 1, 0, 1, 10, 30, 2, 1, 2, 40, 50);
+        Check.dueWay(x, 0, 2, 0, 1, 0, 1, 10, 30, 2, 1, 2, 40, 50);
         x.change(4);
-        dueWay(x, 0, 2, 0, 0, 0, 1, 10, 36, 2, 1, 2, 40, 50);
+        Check.dueWay(x, 0, 2, 0, 0, 0, 1, 10, 36, 2, 1, 2, 40, 50);
     }
 
     static void promise19TheFirstTrainNeedsNoChange() {
         TrainBook x = changing(60, 0);
-        dueWay(x, 1, 2, 100, 1, 1, 2, 100, 400);
-        dueWay(x, 0, 1, 10, 0, 0, 1, 10, 100);
+        Check.dueWay(x, 1, 2, 100, 1, 1, 2, 100, 400);
+        Check.dueWay(x, 0, 1, 10, 0, 0, 1, 10, 100);
     }
 
     static void promise19WhoStaysNeedsNoChange() {
         TrainBook x = new TrainBook();
         Check.line(x, 0, 10, 1, 11, 2, 12);
         x.change(60);
-        dueWay(x, 0, 2, 0, 0, 0, 2, 10, 12);
+        Check.dueWay(x, 0, 2, 0, 0, 0, 2, 10, 12);
     }
 
     // ".. of its TRAIN i 10 i + 10 its number, + 11 the STATION .. boarded, + 12 .. left, + 13, + 14 when."
@@ -256,7 +235,7 @@ public final class WayBoundaryTest {
             int[] part = {9 - i, i, i + 1, 20 * i + 3, 20 * i + 18};
             System.arraycopy(part, 0, parts, 5 * i, 5);
         }
-        dueWay(x, 0, 10, 0, parts);
+        Check.dueWay(x, 0, 10, 0, parts);
         for (int what = 105; what < 130; what++) {
             Check.due("what " + what, x.way(0, 10, 0, 0, what), -1);
         }
@@ -348,9 +327,9 @@ public final class WayBoundaryTest {
         Check.line(x, 0, 10, 2, 51);
         Check.line(x, 0, 10, 1, 20);
         Check.line(x, 1, 25, 2, 50);
-        dueWay(x, 0, 2, 0, 1, 0, 1, 10, 20, 2, 1, 2, 25, 50);
+        Check.dueWay(x, 0, 2, 0, 1, 0, 1, 10, 20, 2, 1, 2, 25, 50);
         x.shift(0, -1);
-        dueWay(x, 0, 2, 0, 0, 0, 2, 9, 50);
+        Check.dueWay(x, 0, 2, 0, 0, 0, 2, 9, 50);
     }
 
     static void promise19TheFewestBeforeTheLeast() {
@@ -358,23 +337,23 @@ public final class WayBoundaryTest {
         Check.line(x, 0, 10, 1, 20);
         Check.line(x, 1, 25, 2, 50);
         Check.line(x, 0, 40, 2, 50);
-        dueWay(x, 0, 2, 0, 2, 0, 2, 40, 50);
+        Check.dueWay(x, 0, 2, 0, 2, 0, 2, 40, 50);
     }
 
     static void promise19TheFirstUnlikenessOfItsTrains() {
         TrainBook x = new TrainBook();
         Check.line(x, 0, 30, 2, 50);
         Check.line(x, 0, 10, 2, 50);
-        dueWay(x, 0, 2, 0, 0, 0, 2, 30, 50);
+        Check.dueWay(x, 0, 2, 0, 0, 0, 2, 30, 50);
         TrainBook two = new TrainBook();
         Check.line(two, 0, 10, 1, 20);
         Check.line(two, 0, 11, 3, 20);
         Check.line(two, 3, 30, 2, 50);
         Check.line(two, 1, 30, 2, 50);
-        dueWay(two, 0, 2, 0, 0, 0, 1, 10, 20, 3, 1, 2, 30, 50);
+        Check.dueWay(two, 0, 2, 0, 0, 0, 1, 10, 20, 3, 1, 2, 30, 50);
         Check.line(two, 1, 31, 2, 50);
-        dueWay(two, 0, 2, 0, 0, 0, 1, 10, 20, 3, 1, 2, 30, 50);
-        dueWay(two, 0, 2, 11, 1, 0, 3, 11, 20, 2, 3, 2, 30, 50);
+        Check.dueWay(two, 0, 2, 0, 0, 0, 1, 10, 20, 3, 1, 2, 30, 50);
+        Check.dueWay(two, 0, 2, 11, 1, 0, 3, 11, 20, 2, 3, 2, 30, 50);
     }
 
     static void promise19TheTrainsBeforeTheStations() {
@@ -382,7 +361,7 @@ public final class WayBoundaryTest {
         Check.line(x, 0, 10, 1, 20, 5, 30);
         Check.line(x, 5, 40, 2, 50);
         Check.line(x, 1, 40, 2, 50);
-        dueWay(x, 0, 2, 0, 0, 0, 5, 10, 30, 1, 5, 2, 40, 50);
+        Check.dueWay(x, 0, 2, 0, 0, 0, 5, 10, 30, 1, 5, 2, 40, 50);
     }
 
     static void promise19BoardedEarlierForALesserTrainBehind() {
@@ -391,26 +370,26 @@ public final class WayBoundaryTest {
         Check.line(x, 1, 40, 3, 50, 2, 60, 4, 70);
         Check.line(x, 3, 65, 9, 100);
         Check.line(x, 4, 80, 9, 100);
-        dueWay(x, 0, 9, 0, 0, 0, 1, 10, 20, 1, 1, 3, 40, 50, 2, 3, 9, 65, 100);
+        Check.dueWay(x, 0, 9, 0, 0, 0, 1, 10, 20, 1, 1, 3, 40, 50, 2, 3, 9, 65, 100);
     }
 
     static void promise19ALongerWayAskedAheadDoesNotStay() {
         TrainBook x = chain();
         Check.due("ten trains", x.way(0, 10, 0, 0, 1), 10);
-        dueWay(x, 8, 10, 0, 1, 8, 9, 163, 178, 0, 9, 10, 183, 198);
-        dueWay(x, 0, 1, 0, 9, 0, 1, 3, 18);
+        Check.dueWay(x, 8, 10, 0, 1, 8, 9, 163, 178, 0, 9, 10, 183, 198);
+        Check.dueWay(x, 0, 1, 0, 9, 0, 1, 3, 18);
         dueNoWay("none", x, 10, 0, 0);
-        dueWay(x, 7, 9, 0, 2, 7, 8, 143, 158, 1, 8, 9, 163, 178);
-        dueWay(x, 8, 10, 0, 1, 8, 9, 163, 178, 0, 9, 10, 183, 198);
+        Check.dueWay(x, 7, 9, 0, 2, 7, 8, 143, 158, 1, 8, 9, 163, 178);
+        Check.dueWay(x, 8, 10, 0, 1, 8, 9, 163, 178, 0, 9, 10, 183, 198);
     }
 
     static void promise19TheLeastStationOfAllAtWhichItCanChange() {
         TrainBook x = new TrainBook();
         Check.line(x, 0, 10, 7, 20, 3, 30, 9, 40);
         Check.line(x, 7, 50, 3, 60, 9, 70, 2, 80);
-        dueWay(x, 0, 2, 0, 0, 0, 3, 10, 30, 1, 3, 2, 60, 80);
+        Check.dueWay(x, 0, 2, 0, 0, 0, 3, 10, 30, 1, 3, 2, 60, 80);
         x.change(30);
-        dueWay(x, 0, 2, 0, 0, 0, 3, 10, 30, 1, 3, 2, 60, 80);
+        Check.dueWay(x, 0, 2, 0, 0, 0, 3, 10, 30, 1, 3, 2, 60, 80);
         x.change(31);
         dueNoWay("no station is left", x, 0, 2, 0);
     }
@@ -420,24 +399,24 @@ public final class WayBoundaryTest {
         Check.line(x, 0, 10, 7, 20, 6, 30);
         Check.line(x, 7, 40, 1, 50, 6, 60, 8, 70);
         Check.line(x, 1, 80, 8, 90, 2, 99);
-        dueWay(x, 0, 2, 0, 0, 0, 6, 10, 30, 1, 6, 8, 60, 70, 2, 8, 2, 90, 99);
+        Check.dueWay(x, 0, 2, 0, 0, 0, 6, 10, 30, 1, 6, 8, 60, 70, 2, 8, 2, 90, 99);
     }
 
     // ---- 20: "At how many minutes of the day (0 .. 1439) one can set out so that .."
 
     static void promise20NoTrainNoMinute() {
-        dueDepartures(new TrainBook(), 0, 1);
+        Check.dueDepartures(new TrainBook(), 0, 1);
         TrainBook x = oneTrain();
-        dueDepartures(x, 11, 0);
-        dueDepartures(x, 5, 0);
-        dueDepartures(x, 0, 1);
+        Check.dueDepartures(x, 11, 0);
+        Check.dueDepartures(x, 5, 0);
+        Check.dueDepartures(x, 0, 1);
     }
 
     static void promise20TheFirstAndLastMinute() {
         TrainBook x = new TrainBook();
         Check.line(x, 0, 1438, 1, 1439);
         Check.line(x, 0, 0, 1, 1);
-        dueDepartures(x, 0, 1, 0, 1438);
+        Check.dueDepartures(x, 0, 1, 0, 1438);
     }
 
     static void promise20OneForEachTrain() {
@@ -445,26 +424,26 @@ public final class WayBoundaryTest {
         for (int t = 9; t >= 0; t--) {
             Check.line(x, 0, 10 * t, 1, 200 + t);
         }
-        dueDepartures(x, 0, 1, 0, 10, 20, 30, 40, 50, 60, 70, 80, 90);
+        Check.dueDepartures(x, 0, 1, 0, 10, 20, 30, 40, 50, 60, 70, 80, 90);
     }
 
     static void promise20ALaterOneThatComesAsSoon() {
         TrainBook x = new TrainBook();
         Check.line(x, 0, 10, 1, 50);
         Check.line(x, 0, 11, 1, 50);
-        dueDepartures(x, 0, 1, 11);
+        Check.dueDepartures(x, 0, 1, 11);
         x.shift(1, 1);
-        dueDepartures(x, 0, 1, 10, 12);
+        Check.dueDepartures(x, 0, 1, 10, 12);
         x.shift(1, -3);
         Check.due("it goes earlier and comes sooner", x.way(0, 1, 0, 0, 0), 48);
-        dueDepartures(x, 0, 1, 9, 10);
+        Check.dueDepartures(x, 0, 1, 9, 10);
     }
 
     static void promise20ALaterOneThatComesSooner() {
         TrainBook x = new TrainBook();
         Check.line(x, 0, 10, 1, 50);
         Check.line(x, 0, 20, 1, 40);
-        dueDepartures(x, 0, 1, 20);
+        Check.dueDepartures(x, 0, 1, 20);
     }
 
     static void promise20TwoTrainsAtOneMinuteCountOnce() {
@@ -472,20 +451,20 @@ public final class WayBoundaryTest {
         Check.line(x, 0, 10, 1, 50);
         Check.line(x, 0, 10, 1, 40);
         Check.line(x, 0, 10, 1, 60);
-        dueDepartures(x, 0, 1, 10);
+        Check.dueDepartures(x, 0, 1, 10);
     }
 
     static void promise20WhenItGoesNotWhenItComes() {
         TrainBook x = oneTrain();
-        dueDepartures(x, 0, 11, 20);
-        dueDepartures(x, 5, 11, 40);
+        Check.dueDepartures(x, 0, 11, 20);
+        Check.dueDepartures(x, 5, 11, 40);
     }
 
     static void promise20ATrainThatEndsThereDoesNotGo() {
         TrainBook x = new TrainBook();
         Check.line(x, 1, 10, 0, 20);
         Check.line(x, 0, 40, 2, 50);
-        dueDepartures(x, 0, 2, 40);
+        Check.dueDepartures(x, 0, 2, 40);
     }
 
     static void promise20OnlyTrainsOfThatDay() {
@@ -502,13 +481,13 @@ public final class WayBoundaryTest {
 
     static void promise20ByWhatTheChangeAllows() {
         TrainBook x = changing(60, 60);
-        dueDepartures(x, 0, 2, 10);
-        dueDepartures(changing(60, 59), 0, 2);
-        dueDepartures(changing(0, 0), 0, 2, 10);
+        Check.dueDepartures(x, 0, 2, 10);
+        Check.dueDepartures(changing(60, 59), 0, 2);
+        Check.dueDepartures(changing(0, 0), 0, 2, 10);
         Check.line(x, 0, 40, 1, 101);
-        dueDepartures(x, 0, 2, 10);
+        Check.dueDepartures(x, 0, 2, 10);
         x.change(59);
-        dueDepartures(x, 0, 2, 40);
+        Check.dueDepartures(x, 0, 2, 40);
     }
 
     /** Minute by minute as the sentence says, each way asked of a book used for few calls. */

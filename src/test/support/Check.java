@@ -9,16 +9,16 @@ import java.util.regex.Matcher;
 import java.util.regex.Pattern;
 
 /**
- * What tests of the promises share: they run each method of theirs whose name tells a promise, and look
- * at all that a book answers, so that a call that must do nothing is seen to do nothing. No object is
- * used for more than 512 calls, because what later calls answer is free.
+ * What tests of the document share: they run each method of theirs whose name tells a promise or a part
+ * of the terms, and look at all that a book answers, so that a call that must do nothing is seen to do
+ * nothing. No object is used for more than 512 calls, because what later calls answer is free.
  */
 final class Check {
     static final int LEAST = Integer.MIN_VALUE;
     static final int MOST = Integer.MAX_VALUE;
     /** Numbers that no train, station, row, column, day, sign, minute or what can have. */
     static final int[] NEVER = {-1, -2, -7, -100, -1440, LEAST, LEAST + 1, 1440, 65536, 1 << 30, MOST - 1, MOST};
-    private static final Pattern TEST = Pattern.compile("promise(\\d+)[A-Z]\\w*");
+    private static final Pattern TEST = Pattern.compile("(promise|part)(\\d+)[A-Z]\\w*");
     private static final int DAYS_READ_FROM = 5;
     private static final int PARTS = DAYS_READ_FROM + 7;
     private static int wrong = 0;
@@ -27,13 +27,13 @@ final class Check {
     private Check() {
     }
 
-    static void runAll(Class<?> tests, int firstPromise, int lastPromise) {
+    static void runAll(Class<?> tests, String kind, int first, int last) {
         int ran = 0;
-        for (int promise = firstPromise; promise <= lastPromise; promise++) {
-            List<Method> own = testsOf(tests, promise);
+        for (int number = first; number <= last; number++) {
+            List<Method> own = testsOf(tests, kind, number);
             if (own.isEmpty()) {
                 wrong++;
-                System.out.println("promise " + promise + " has no test");
+                System.out.println(kind + " " + number + " has no test");
             }
             for (Method method : own) {
                 run(method);
@@ -46,11 +46,11 @@ final class Check {
         }
     }
 
-    private static List<Method> testsOf(Class<?> tests, int promise) {
+    private static List<Method> testsOf(Class<?> tests, String kind, int number) {
         List<Method> own = new ArrayList<>();
         for (Method method : tests.getDeclaredMethods()) {
             Matcher name = TEST.matcher(method.getName());
-            if (name.matches() && Integer.parseInt(name.group(1)) == promise) {
+            if (name.matches() && name.group(1).equals(kind) && Integer.parseInt(name.group(2)) == number) {
                 own.add(method);
             }
         }
@@ -124,6 +124,28 @@ final class Check {
             due("column(" + i + ")", x.column(i), trains[i]);
         }
         due("column(" + trains.length + ")", x.column(trains.length), -1);
+    }
+
+    /** That the best way on day 0 has these parts: train, boarded at, left at, goes, comes in turn. */
+    static void dueWay(TrainBook x, int from, int to, int minute, int... parts) {
+        String name = "way(" + from + ", " + to + ", 0, " + minute + ", ";
+        due(name + "0)", x.way(from, to, 0, minute, 0), parts[parts.length - 1]);
+        due(name + "1)", x.way(from, to, 0, minute, 1), parts.length / 5);
+        due(name + "2)", x.way(from, to, 0, minute, 2), parts[3]);
+        for (int i = 0; i < parts.length; i++) {
+            int what = i / 5 * 10 + 10 + i % 5;
+            due(name + what + ")", x.way(from, to, 0, minute, what), parts[i]);
+        }
+    }
+
+    static void dueDepartures(TrainBook x, int from, int to, int... minutes) {
+        String name = "(" + from + ", " + to + ", 0";
+        due("departures" + name + ")", x.departures(from, to, 0), minutes.length);
+        for (int k = 0; k < minutes.length; k++) {
+            due("departure" + name + ", " + k + ")", x.departure(from, to, 0, k), minutes[k]);
+        }
+        due("departure" + name + ", " + minutes.length + ")", x.departure(from, to, 0, minutes.length), -1);
+        due("departure" + name + ", -1)", x.departure(from, to, 0, -1), -1);
     }
 
     /** Three trains of 3, 2 and no stops, a table of the first two, three signs told and a CHANGE. */
